@@ -618,7 +618,6 @@ public final class TemperingLine {
             }
             int leaving = quenchSheet;
             quenchSheet = EMPTY;
-            quenchTicks = 0;
             return leaving;
         }
 
@@ -812,7 +811,6 @@ public final class TemperingLine {
             length = limit(textLength, 0, filled);
             filled = 0;
             end = 0;
-            errorCode = 0;
             errorStart = -1;
             heatSeen = false;
             setup = new Setup();

@@ -42,11 +42,16 @@ final class ChangeTest {
             Due.argument("add(" + wrong + ", 50)", () -> y.add(wrong, 50));
             Due.argument("add(5, " + wrong + ")", () -> y.add(5, wrong));
         }
+        // 40 * 107374183 is 24 when it wraps around.
+        Due.argument("add(107374183, 9)", () -> y.add(107374183, 9));
+        Due.argument("add(500, 10000)", () -> y.add(500, 10000));
         Due.argument("thickness 1", () -> y.add(1, 40));
         Due.argument("thickness 20", () -> y.add(20, 40));
         Due.argument("thickness 0", () -> y.add(1, 9999));
         Due.argument("thickness 399960", () -> y.add(9999, 1));
         Due.is("sheetCount()", y.sheetCount(), 0);
+        Due.is("add(1, 15)", y.add(1, 15), 0);
+        Due.is("thickness(0)", y.thickness(0), 3);
     }
 
     private static int thrownOrAdded(TemperingLine x, int weight, int area) {

@@ -180,8 +180,8 @@ final class RandomTest {
         int zones = random.nextInt(12) == 0 ? 7 : between(1, 6);
         boolean heat = random.nextInt(5) == 0;
         while (zones > 0) {
-            switch (random.nextInt(3)) {
-                case 0:
+            switch (random.nextInt(5)) {
+                case 0, 3, 4:
                     int low = between(20, 700);
                     text.append("band ").append(between(2, 19)).append(' ').append(low).append(' ')
                             .append(between(low, Math.min(900, low + 200))).append(';');

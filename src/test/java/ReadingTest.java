@@ -135,5 +135,7 @@ final class ReadingTest {
             Due.argument("recognise(" + wrong + ", 1)", () -> x.recognise(wrong, 1));
             Due.argument("recognise(1, " + wrong + ")", () -> x.recognise(1, wrong));
         }
+        Due.argument("recognise(107374183, 9)", () -> x.recognise(107374183, 9));
+        Due.argument("recognise(500, 10000)", () -> x.recognise(500, 10000));
     }
 }

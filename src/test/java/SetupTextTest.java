@@ -10,6 +10,7 @@ final class SetupTextTest {
         buffer();
         bytes();
         goodTexts();
+        similarWords();
         headerErrors();
         statementErrors();
         heatErrors();
@@ -90,6 +91,23 @@ final class SetupTextTest {
         TemperingLine part = new TemperingLine();
         Due.append(part, "line 1 0;" + ZONE + "garbage");
         Due.is("only the first bytes are read", part.load(28), 1);
+    }
+
+    /** A word counts as a whole: none with another letter, with one more or with one less. */
+    private static void similarWords() {
+        String text = "line 1 0;zone 100 1 1 20 20;band 2 20 20;heat zone+thickness+gap;";
+        error(text, -1, 1);
+        for (int at = 0; at < text.length(); at++) {
+            if (Character.isLetter(text.charAt(at))) {
+                int word = at;
+                while (word > 0 && Character.isLetter(text.charAt(word - 1))) {
+                    word--;
+                }
+                error(text.substring(0, at) + "x" + text.substring(at + 1), word, SYNTAX);
+                error(text.substring(0, at) + "x" + text.substring(at), word, SYNTAX);
+                error(text.substring(0, at) + text.substring(at + 1), word, SYNTAX);
+            }
+        }
     }
 
     private static void headerErrors() {
@@ -250,6 +268,37 @@ final class SetupTextTest {
         Due.add(x, 4);
         x.run(2);
         Due.is("temperature(0)", x.temperature(0), 20 + 280 * 100 / 1000);
+        everythingStartsAnew();
+    }
+
+    /** A sheet in the quench, one in the zone, sheets that came through, and breaks of both kinds. */
+    private static void everythingStartsAnew() {
+        TemperingLine x = Due.line("line 1 9;zone 500 9 999 60 900;band 3 890 900;band 4 20 30;"
+                + "heat 900;");
+        for (int t = 2; t <= 6; t++) {
+            Due.add(x, t);
+        }
+        x.run(13);
+        Due.is("quenched()", x.quenched(), 3);
+        Due.is("zone(0, 6)", x.zone(0, 6), 4);
+        Due.is("learned(2, 0)", x.learned(2, 0), 1);
+        Due.is("learned(3, 1)", x.learned(3, 1), 1);
+        Due.is("learned(4, 2)", x.learned(4, 2), 1);
+        Due.is("load with an error", Due.load(x, "lane"), SYNTAX);
+        Due.is("errorOffset()", x.errorOffset(), 0);
+        Due.is("load", Due.load(x, "line 1 0;zone 300 1 999 20 20;heat 700;"), 1);
+        Due.is("errorOffset()", x.errorOffset(), -1);
+        Due.is("quenched()", x.quenched(), -1);
+        Due.is("quenchLeft()", x.quenchLeft(), 0);
+        Due.is("zone(0, 6)", x.zone(0, 6), -1);
+        for (int t = 2; t <= 19; t++) {
+            for (int what = 0; what <= 5; what++) {
+                Due.is("learned(" + t + ", " + what + ")", x.learned(t, what), what < 4 ? 0 : -1);
+            }
+        }
+        Due.add(x, 4);
+        x.run(2);
+        Due.is("the new heat statement counts", x.temperature(0), 20 + 280 * 700 / 1000);
     }
 
     private static void error(String text, int offset, int answer) {

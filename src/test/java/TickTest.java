@@ -233,6 +233,8 @@ final class TickTest {
         heat("heat 2*(3+4*(5-6/(7-5)));", 22);
         heat("heat 1-2*(3-4*(5-6*(7-8)-9)+2)+1;", 8);
         heat("heat 00012;", 12);
+        heat("heat 999;", 999);
+        heat("heat 1+2*(1+2*(1+2*(1+2*(1+2*3))));", 127);
         TemperingLine x = Due.line("line 1 0;zone 220 99 999 20 900;zone 900 99 999 20 900;"
                 + "heat zone*500+gap;");
         Due.add(x, 2);

@@ -6,6 +6,7 @@ final class UndoTest {
     public static void main(String[] args) {
         atMostEight();
         everyKindOfChange();
+        breaksAreUndone();
         changesWithoutEffect();
         loadIsUndone();
         afterUndo();
@@ -69,6 +70,29 @@ final class UndoTest {
         Due.is("zoneCount()", x.zoneCount(), 2);
         Due.is("learned(4, 2)", x.learned(4, 2), 0);
         Due.is("quenched()", x.quenched(), -1);
+    }
+
+    private static void breaksAreUndone() {
+        TemperingLine x = Due.line("line 1 9;zone 500 9 999 60 900;band 3 890 900;band 4 20 30;"
+                + "heat 900;");
+        for (int t = 2; t <= 5; t++) {
+            Due.add(x, t);
+        }
+        long sum = x.checksum();
+        x.run(60);
+        Due.is("learned(2, 0)", x.learned(2, 0), 1);
+        Due.is("learned(3, 1)", x.learned(3, 1), 1);
+        Due.is("learned(3, 3)", x.learned(3, 3), 9);
+        Due.is("learned(4, 2)", x.learned(4, 2), 1);
+        Due.is("learned(4, 3)", x.learned(4, 3), -9);
+        Due.is("checksum()", x.checksum(), sum(x));
+        Due.is("undo()", x.undo(), 5);
+        Due.is("checksum()", x.checksum(), sum);
+        for (int t = 2; t <= 5; t++) {
+            for (int what = 0; what <= 3; what++) {
+                Due.is("learned(" + t + ", " + what + ")", x.learned(t, what), 0);
+            }
+        }
     }
 
     private static void changesWithoutEffect() {
