@@ -7,6 +7,7 @@ final class ChangeTest {
     public static void main(String[] args) {
         add();
         run();
+        clockLimit();
         setPoint();
         setCorrection();
         scrap();
@@ -96,10 +97,9 @@ final class ChangeTest {
         }
         many.run(60);
         Due.is("60 ticks in one call or in 60", single.checksum(), many.checksum());
-        clockLimit();
     }
 
-    /** Beyond the calls that the document promises, but the exception is promised. */
+    /** "if the clock would exceed 100000": only beyond the 512th call, but it is named. */
     private static void clockLimit() {
         TemperingLine x = Due.line(TEXT);
         for (int i = 0; i < 1666; i++) {
@@ -113,7 +113,7 @@ final class ChangeTest {
         Due.state("run(1)", () -> x.run(1));
         Due.is("clock()", x.clock(), 100000);
         Due.add(x, 2);
-        Due.is("finishTime(300)", x.finishTime(300), 5);
+        Due.is("finishTime(300): the limit is one of run alone", x.finishTime(300), 5);
     }
 
     private static void setPoint() {
